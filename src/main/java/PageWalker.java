@@ -39,7 +39,7 @@ public final class PageWalker {
 
     public long word(long address) throws IndexOutOfBoundsException {
         int index = wordIndex(address);
-        if (index < 0 || index >= words.length) {
+        if (index == NO_WORD) {
             throw new IndexOutOfBoundsException("no word of memory is there");
         }
         return words[index];
@@ -47,7 +47,7 @@ public final class PageWalker {
 
     public void put(long address, long v) throws IndexOutOfBoundsException {
         int index = wordIndex(address);
-        if (index < 0 || index >= words.length) {
+        if (index == NO_WORD) {
             throw new IndexOutOfBoundsException("no word of memory is there");
         }
         words[index] = v;
@@ -79,16 +79,10 @@ public final class PageWalker {
     }
 
     public long number(int region) throws IndexOutOfBoundsException {
-        if (!Regions.exists(region)) {
-            throw new IndexOutOfBoundsException("no such region");
-        }
         return regions.numberOf(region);
     }
 
     public void setNumber(int region, long v) throws IndexOutOfBoundsException {
-        if (!Regions.exists(region)) {
-            throw new IndexOutOfBoundsException("no such region");
-        }
         regions.takeNumber(region, v);
     }
 
@@ -160,15 +154,15 @@ public final class PageWalker {
         return walk(address, access, mode, depths);
     }
 
+    /** Entries are read and marked as by a supervisor, whatever the mode of the access. */
     private long walk(long address, int access, int mode, int depths) {
         long page = table & PAGE_NUMBER_MASK;
         for (int depth = depths - 1; depth >= 0; depth--) {
             long place = entryPlace(page, address, depth);
-            int index = wordIndex(place);
-            if (index < 0 || index >= words.length || !isEntryOpen(place, LOAD)) {
+            if (wordIndex(place) == NO_WORD || !regions.letThrough(place, LOAD, SUPERVISOR, WORD_BYTES)) {
                 return accessFault(access);
             }
-            long entry = words[index];
+            long entry = word(place);
             if (isMalformed(entry)) {
                 return pageFault(access);
             }
@@ -176,7 +170,7 @@ public final class PageWalker {
                 if (!grants(entry, access, mode, depth)) {
                     return pageFault(access);
                 }
-                return mark(place, access) ? target(entry, address, depth) : accessFault(access);
+                return mark(place, entry, access) ? target(entry, address, depth) : accessFault(access);
             }
             page = pageNumber(entry);
         }
@@ -191,11 +185,6 @@ public final class PageWalker {
 
     private static int shiftOf(int depth) {
         return PAGE_BITS + DEPTH_BITS * depth;
-    }
-
-    /** The walk reads and marks entries as a supervisor does, whatever the mode of the access. */
-    private boolean isEntryOpen(long place, int access) {
-        return regions.letThrough(place, access, SUPERVISOR, WORD_BYTES);
     }
 
     private static boolean has(long entry, long bit) {
@@ -241,20 +230,16 @@ public final class PageWalker {
         return has(entry, ENTRY_R) || mxr && has(entry, ENTRY_X);
     }
 
-    /** Puts the marks that are wanting into the entry; false if the regions do not let it be stored. */
-    private boolean mark(long place, int access) {
-        int index = wordIndex(place);
-        if (index < 0 || index >= words.length) {
-            return false;
-        }
+    /** Puts the marks that the entry wants; false if the regions do not let them be stored. */
+    private boolean mark(long place, long entry, int access) {
         long marks = access == STORE ? ENTRY_A | ENTRY_D : ENTRY_A;
-        if ((words[index] & marks) == marks) {
+        if ((entry & marks) == marks) {
             return true;
         }
-        if (!isEntryOpen(place, STORE)) {
+        if (!regions.letThrough(place, STORE, SUPERVISOR, WORD_BYTES)) {
             return false;
         }
-        words[index] |= marks;
+        put(place, entry | marks);
         return true;
     }
 
@@ -263,7 +248,7 @@ public final class PageWalker {
         return pageNumber(entry) * PAGE_BYTES | address & within;
     }
 
-    /** The eight regions; every region that is named to a method here is one that exists. */
+    /** The eight regions, in the order in which they decide. */
     private static final class Regions {
         private static final int COUNT = 8;
         private static final int CONFIG_BITS = 8;
@@ -278,10 +263,6 @@ public final class PageWalker {
         private final int[] configs = new int[COUNT];
         private final long[] numbers = new long[COUNT];
 
-        static boolean exists(int region) {
-            return region >= 0 && region < COUNT;
-        }
-
         long packedConfigs() {
             long packed = 0;
             for (int region = 0; region < COUNT; region++) {
@@ -292,10 +273,44 @@ public final class PageWalker {
 
         void takeConfigs(long packed) {
             for (int region = 0; region < COUNT; region++) {
-                if (!isLocked(region)) {
+                if (!isLocked(configs[region])) {
                     configs[region] = legalConfig((int) (packed >>> (CONFIG_BITS * region)));
                 }
             }
+        }
+
+        long numberOf(int region) {
+            if (region < 0 || region >= COUNT) {
+                throw new IndexOutOfBoundsException("no such region");
+            }
+            return numbers[region];
+        }
+
+        void takeNumber(int region, long v) {
+            if (region < 0 || region >= COUNT) {
+                throw new IndexOutOfBoundsException("no such region");
+            }
+            boolean isFixedByNext = region + 1 < COUNT && fixesNumberBefore(configs[region + 1]);
+            if (!isLocked(configs[region]) && !isFixedByNext) {
+                numbers[region] = v & NUMBER_MASK;
+            }
+        }
+
+        boolean letThrough(long first, int access, int mode, int size) {
+            long end = first + size;
+            long before = 0;
+            for (int region = 0; region < COUNT; region++) {
+                int config = configs[region];
+                long number = numbers[region];
+                long from = startOf(config, number, before);
+                long to = endOf(config, number);
+                // A region whose end is not behind its start covers nothing, even inside the bytes.
+                if (from < to && from < end && first < to) {
+                    return from <= first && end <= to && permits(config, access, mode);
+                }
+                before = number;
+            }
+            return mode == MACHINE;
         }
 
         private static int legalConfig(int asked) {
@@ -303,77 +318,49 @@ public final class PageWalker {
             return (config & CONFIG_R) == 0 ? config & ~CONFIG_W : config;
         }
 
-        long numberOf(int region) {
-            return exists(region) ? numbers[region] : 0;
+        private static boolean isLocked(int config) {
+            return (config & CONFIG_L) != 0;
         }
 
-        void takeNumber(int region, long v) {
-            if (exists(region) && !isNumberFixed(region)) {
-                numbers[region] = v & NUMBER_MASK;
-            }
+        private static boolean fixesNumberBefore(int config) {
+            return isLocked(config) && kindOf(config) == A_FROM_BEFORE;
         }
 
-        private boolean isNumberFixed(int region) {
-            int next = region + 1;
-            return isLocked(region) || isLocked(next) && kindOf(next) == A_FROM_BEFORE;
+        private static int kindOf(int config) {
+            return (config >> CONFIG_A_SHIFT) & CONFIG_A_MASK;
         }
 
-        private boolean isLocked(int region) {
-            return has(region, CONFIG_L);
-        }
-
-        private boolean has(int region, int bit) {
-            return exists(region) && (configs[region] & bit) != 0;
-        }
-
-        private int kindOf(int region) {
-            return exists(region) ? (configs[region] >> CONFIG_A_SHIFT) & CONFIG_A_MASK : 0;
-        }
-
-        boolean letThrough(long first, int access, int mode, int size) {
-            long end = first + size;
-            for (int region = 0; region < COUNT; region++) {
-                long from = startOf(region);
-                long to = endOf(region);
-                // A region whose end is not behind its start covers nothing, wherever it lies.
-                if (from < to && from < end && first < to) {
-                    return from <= first && end <= to && permits(region, access, mode);
-                }
-            }
-            return mode == MACHINE;
-        }
-
-        private boolean permits(int region, int access, int mode) {
-            if (mode == MACHINE && !isLocked(region)) {
+        private static boolean permits(int config, int access, int mode) {
+            if (mode == MACHINE && !isLocked(config)) {
                 return true;
             }
-            return has(region, access == FETCH ? CONFIG_X : access == LOAD ? CONFIG_R : CONFIG_W);
+            int needed = access == FETCH ? CONFIG_X : access == LOAD ? CONFIG_R : CONFIG_W;
+            return (config & needed) != 0;
         }
 
-        private long startOf(int region) {
-            long number = numberOf(region);
-            switch (kindOf(region)) {
+        private static long startOf(int config, long number, long before) {
+            switch (kindOf(config)) {
                 case A_FROM_BEFORE:
-                    return UNIT * numberOf(region - 1);
+                    return UNIT * before;
                 case A_FOUR:
                     return UNIT * number;
                 case A_POWER:
+                    // The ones that the number ends with become 0.
                     return UNIT * (number & (number + 1));
                 default:
                     return 0;
             }
         }
 
-        private long endOf(int region) {
-            long number = numberOf(region);
-            switch (kindOf(region)) {
+        private static long endOf(int config, long number) {
+            switch (kindOf(config)) {
                 case A_FROM_BEFORE:
                     return UNIT * number;
                 case A_FOUR:
-                    return UNIT * number + UNIT;
+                    return UNIT * (number + 1);
                 case A_POWER:
-                    // With k ones at its end, number ^ (number + 1) is 2^(k + 1) - 1.
-                    return startOf(region) + UNIT * ((number ^ (number + 1)) + 1);
+                    // The zero before those ones becomes 1 too: k + 1 ones, and 2^(k + 1) units from the start.
+                    return UNIT * ((number | (number + 1)) + 1);
                 default:
                     return 0;
             }

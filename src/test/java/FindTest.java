@@ -124,6 +124,8 @@ public final class FindTest {
         due.same("depth " + depth + ", the lowest number that may be", x.find(size - 1, LOAD, SUPERVISOR, 1), 2 * size - 1);
         x.put(place, (0xFFF_FFFF_FFFFL >>> 9 * depth << 9 * depth) << 10 | V | R | A);
         due.same("depth " + depth + ", the highest number", x.find(size - 1, LOAD, SUPERVISOR, 1), TOP);
+        x.put(place + 8, (2L << 9 * depth) << 10 | V | R | A);
+        due.same("depth " + depth + ", the row is no part of what is found", x.find(2 * size - 1, LOAD, SUPERVISOR, 1), 3 * size - 1);
     }
 
     private static void lostTables(Due due) {
