@@ -1,332 +1,433 @@
-/** Promises 6 (rights) and 11 (find). */
+/** "Terms" from "TO FIND" to the last entry: promise 11 (find). */
 public final class FindTest {
     private static final int FETCH = PageWalker.FETCH, LOAD = PageWalker.LOAD, STORE = PageWalker.STORE;
     private static final int V = Due.V, R = Due.R, W = Due.W, X = Due.X, U = Due.U, G = Due.G, A = Due.A, D = Due.D;
-    private static final int USER = Due.USER, SUPERVISOR = Due.SUPERVISOR, MACHINE = Due.MACHINE;
-    private static final long TOP = (1L << 56) - 1;
-    private static final long[] ACCESS_FAULTS = {-1, -5, -7};
-    private static final long[] PAGE_FAULTS = {-12, -13, -15};
-    private static final long PAGE = Due.MEMORY + 3 * 4096;
+    private static final int ALL = V | R | W | X | A | D;
+    private static final long TOP = Due.TOP;
 
     public static void main(String[] args) {
         Due due = new Due();
-        withoutTable(due);
-        signOfAddresses(due);
-        rowsOfEveryDepth(due);
-        largePages(due);
-        lostTables(due);
-        guardedTables(due);
-        entriesOnTheWay(due);
-        everyLastEntry(due);
-        marks(due);
-        guardedMarks(due);
-        guardedTarget(due);
-        targetsOutsideMemory(due);
-        tableBitsThatDoNotMatter(due);
-        wrongInputs(due);
+        due.sentence("Bits i..j of a number are a number of their own, from 0 on.", FindTest::bitsFromZeroOn);
+        due.sentence("in mode 3, or with the sort 0, its physical address is a itself", FindTest::itself);
+        due.sentence("but an access fault if bits 56..63 are not 0", FindTest::tooHigh);
+        due.sentence("Otherwise there are n = 3 (sort 8) or 4 (sort 9) depths.", FindTest::depths);
+        due.sentence("If the bits of a from 9 n + 11 on are not all the same, it is a page fault.", FindTest::sameBits);
+        due.sentence("with the page of the table at first", FindTest::pageOfTheTable);
+        due.sentence("and 8 times bits 12 + 9 i .. 20 + 9 i of a", FindTest::rows);
+        due.sentence("It is an access fault if there is no such word in memory", FindTest::noSuchWord);
+        due.sentence("or its eight bytes are not let through for a load in mode 1", FindTest::guardedEntry);
+        due.sentence("or its eight bytes are not let through for a load in mode 1 -- some of the eight", FindTest::halfGuarded);
+        due.sentence("and the number of a page in bits 10..53", FindTest::numberInEntry);
+        due.sentence("It is a page fault if V is 0", FindTest::notValid);
+        due.sentence("or W is 1 and R 0", FindTest::storeWithoutLoad);
+        due.sentence("or one of the bits 54..63 is 1", FindTest::highBits);
+        due.sentence("If R and X are 0, it is a page fault when i is 0", FindTest::leadsOnFromTheLowest);
+        due.sentence("or U, A or D is 1", FindTest::marksOnTheWay);
+        due.sentence("else its page is the next one", FindTest::nextPage);
+        due.sentence("If R or X is 1, it is the LAST one.", FindTest::lastOne);
         due.end();
     }
 
-    private static String call(String what, int access, int mode) {
-        return what + ", access " + access + ", mode " + mode;
+    private static String of(int depths, int depth, int access) {
+        return "depth " + depth + " of " + depths + ", access " + access;
     }
 
-    private static void withoutTable(Due due) {
-        PageWalker x = Due.open();
-        PageWalker y = Due.open();
-        y.setTable(Due.SORT_FOUR | Due.MEMORY_PAGE);
-        for (int access = 0; access < 3; access++) {
-            for (int mode : new int[] {USER, SUPERVISOR, MACHINE}) {
-                due.same(call("sort 0", access, mode), x.find(4, access, mode, 8), 4);
-                due.same(call("sort 0, top", access, mode), x.find(TOP, access, mode, 1), TOP);
-                due.same(call("sort 0, 2^56", access, mode), x.find(TOP + 1, access, mode, 1), ACCESS_FAULTS[access]);
-                due.same(call("sort 0, 2^63", access, mode), x.find(1L << 63, access, mode, 1), ACCESS_FAULTS[access]);
-                due.same(call("sort 0, -1", access, mode), x.find(-1, access, mode, 1), ACCESS_FAULTS[access]);
-            }
-            due.same("mode 3 with a table", y.find(4096, access, MACHINE, 8), 4096);
-            due.same("mode 3 with a table, 2^56", y.find(TOP + 1, access, MACHINE, 8), ACCESS_FAULTS[access]);
-        }
-        PageWalker shut = new PageWalker();
-        due.same("sort 0 of a user without a region", shut.find(4, STORE, USER, 4), -7);
-        due.same("mode 3 without a region", shut.find(4, STORE, MACHINE, 4), 4);
-        shut.setConfigs(0x90);
-        due.same("mode 3 and a locked region", shut.find(0, STORE, MACHINE, 4), -7);
+    /** A number that a page of every size may have: no lower bit than 27 is 1. */
+    private static long large(int bits) {
+        return 1L << 37 | bits;
     }
 
-    private static void signOfAddresses(Due due) {
-        for (int depths = 3; depths <= 4; depths++) {
+    /** The physical address of the same number. */
+    private static final long LARGE = 1L << 39;
+
+    /** The highest bit of a part is no sign. */
+    private static void bitsFromZeroOn(Due due) {
+        PageWalker page = Due.walk(3, 0, 1L << 53 | V | R);
+        due.same("the highest bit of the number in an entry", page.find(8, LOAD, 1, 8), 1L << 55 | 8);
+        PageWalker next = Due.walk(3, 1, 1L << 53 | V);
+        due.same("the same on the way", next.find(8, LOAD, 1, 8), -5);
+        PageWalker row = Due.walk(3, 0, 0);
+        row.put(Due.row(2, 511), Due.entry(9, V | R));
+        due.same("the highest row", row.find(511 << 12, LOAD, 1, 8), Due.MEMORY + 9 * 4096);
+        row.put(Due.row(2, 256), Due.entry(10, V | R));
+        due.same("the highest bit of a row alone", row.find(256 << 12, LOAD, 1, 8), Due.MEMORY + 10 * 4096);
+        PageWalker table = Due.open();
+        table.setTable(Due.SORT_FOUR | 1L << 43);
+        due.same("the highest bit of the sort and of the table's number", table.table(), Due.SORT_FOUR | 1L << 43);
+        due.same("no table there", table.find(8, LOAD, 1, 8), -5);
+        PageWalker config = new PageWalker();
+        config.setConfigs(0x8000_0000_0000_0080L);
+        due.same("the highest bit of a config", config.configs(), 0x8000_0000_0000_0080L);
+    }
+
+    private static void itself(Due due) {
+        for (long sort : new long[] {0, 8, 9}) {
             PageWalker x = Due.open();
-            x.setTable((depths == 3 ? Due.SORT_THREE : Due.SORT_FOUR) | Due.MEMORY_PAGE);
-            // An entry that lies outside memory: an address of good form is refused with an access fault.
-            for (int row = 0; row < 512; row++) {
-                x.put(Due.row(0, row), V);
-            }
-            long half = 1L << (9 * depths + 11);
-            long[] good = {0, half - 1, -half, -1, half / 2, -half / 2};
-            long[] bad = {half, -half - 1, Long.MIN_VALUE, Long.MAX_VALUE, 2 * half, 2 * half - 1, TOP + 1, 1L << 62};
-            for (int access = 0; access < 3; access++) {
-                for (long a : good) {
-                    due.same("depths " + depths + " find(" + a + ")", x.find(a, access, SUPERVISOR, 1), ACCESS_FAULTS[access]);
-                }
-                for (long a : bad) {
-                    due.same("depths " + depths + " find(" + a + ")", x.find(a, access, SUPERVISOR, 1), PAGE_FAULTS[access]);
+            x.setTable(sort << 60 | Due.MEMORY_PAGE);
+            x.put(Due.MEMORY, large(V | R | W | X));
+            for (int access = FETCH; access <= STORE; access++) {
+                for (long a : new long[] {0, 8, 4096, Due.MEMORY, 1L << 38, 1L << 39, 1L << 47, 1L << 55, TOP - 7}) {
+                    due.same("sort " + sort + " in mode 3 at " + a, x.find(a, access, 3, 8), a);
+                    if (sort == 0) {
+                        due.same("sort 0 in mode 0 at " + a, x.find(a, access, 0, 8), a);
+                        due.same("sort 0 in mode 1 at " + a, x.find(a, access, 1, 8), a);
+                    }
                 }
             }
+            due.same("no mark in sort " + sort, x.word(Due.MEMORY), large(V | R | W | X));
         }
     }
 
-    private static void rowsOfEveryDepth(Due due) {
-        int[] rows = {3, 511, 256, 129};
-        for (int depths = 3; depths <= 4; depths++) {
+    private static void tooHigh(Due due) {
+        for (long sort : new long[] {0, 8, 9}) {
             PageWalker x = Due.open();
-            x.setTable((depths == 3 ? Due.SORT_THREE : Due.SORT_FOUR) | Due.MEMORY_PAGE + 5);
-            long address = 0xABC;
-            for (int depth = depths - 1; depth >= 0; depth--) {
-                int table = 5 + depths - 1 - depth;
-                x.put(Due.row(table, rows[depth]), Due.entry(depth == 0 ? 15 : table + 1, depth == 0 ? V | R | W | X | G : V | G));
-                address |= (long) rows[depth] << 12 + 9 * depth;
-            }
-            address = address << (52 - 9 * depths) >> (52 - 9 * depths);
-            due.same("depths " + depths, x.find(address, LOAD, SUPERVISOR, 4), Due.MEMORY + 15 * 4096 + 0xABC);
-            due.same("depths " + depths + ", last byte", x.find(address | 0xFFF, STORE, SUPERVISOR, 1), Due.MEMORY + 15 * 4096 + 0xFFF);
-            due.same("depths " + depths + ", the row beside", x.find(address + 4096, LOAD, SUPERVISOR, 4), -13);
-        }
-    }
-
-    private static void largePages(Due due) {
-        for (int depths = 3; depths <= 4; depths++) {
-            for (int depth = 0; depth < depths; depth++) {
-                largePage(due, depths, depth);
+            x.setTable(sort << 60 | Due.MEMORY_PAGE);
+            for (int access = FETCH; access <= STORE; access++) {
+                for (int mode : sort == 0 ? Due.MODES : new int[] {3}) {
+                    for (int bit = 56; bit < 64; bit++) {
+                        due.same("bit " + bit, x.find(1L << bit, access, mode, 1), Due.ACCESS_FAULTS[access]);
+                    }
+                    due.same("all ones", x.find(-1, access, mode, 1), Due.ACCESS_FAULTS[access]);
+                    due.same("ones in 56..63", x.find(~TOP, access, mode, 8), Due.ACCESS_FAULTS[access]);
+                    due.same("the highest address", x.find(TOP, access, mode, 1), TOP);
+                }
             }
         }
+        PageWalker none = new PageWalker();
+        due.same("mode 3 without a region, 2^56", none.find(TOP + 1, LOAD, 3, 1), -5);
+        due.same("mode 3 without a region, 2^56 - 1", none.find(TOP, LOAD, 3, 1), TOP);
     }
 
-    private static void largePage(Due due, int depths, int depth) {
-        PageWalker x = Due.open();
-        x.setTable((depths == 3 ? Due.SORT_THREE : Due.SORT_FOUR) | Due.MEMORY_PAGE);
-        for (int table = 0; table < depths - 1 - depth; table++) {
-            x.put(Due.row(table, 0), Due.entry(table + 1, V));
-        }
-        long place = Due.row(depths - 1 - depth, 0);
-        long size = 1L << (12 + 9 * depth);
-        long number = 0x555_5555_5555L >>> 9 * depth << 9 * depth;
-        x.put(place, number << 10 | V | R | A);
-        long address = 0x5A5A_5A5A_5A5AL & (size - 1);
-        for (int i = 0; i < depth; i++) {
-            due.same("large page of depth " + depth, x.find(address, LOAD, SUPERVISOR, 1), number << 12 | address);
-            x.put(place, (number | 1L << 9 * i) << 10 | V | R | A);
-            due.same("depth " + depth + ", number with a one at " + 9 * i, x.find(address, LOAD, SUPERVISOR, 1), -13);
-            x.put(place, (number | 1L << 9 * i + 8) << 10 | V | R | A);
-            due.same("depth " + depth + ", number with a one at " + (9 * i + 8), x.find(address, LOAD, SUPERVISOR, 1), -13);
-            x.put(place, number << 10 | V | R | A);
-        }
-        x.put(place, (1L << 9 * depth) << 10 | V | R | A);
-        due.same("depth " + depth + ", the lowest number that may be", x.find(size - 1, LOAD, SUPERVISOR, 1), 2 * size - 1);
-        x.put(place, (0xFFF_FFFF_FFFFL >>> 9 * depth << 9 * depth) << 10 | V | R | A);
-        due.same("depth " + depth + ", the highest number", x.find(size - 1, LOAD, SUPERVISOR, 1), TOP);
-        x.put(place + 8, (2L << 9 * depth) << 10 | V | R | A);
-        due.same("depth " + depth + ", the row is no part of what is found", x.find(2 * size - 1, LOAD, SUPERVISOR, 1), 3 * size - 1);
+    private static void depths(Due due) {
+        // Three tables that lead on, and a fourth one behind them.
+        PageWalker x = Due.walk(4, 0, Due.entry(9, V | R));
+        due.same("sort 9", x.find(8, LOAD, 1, 8), Due.MEMORY + 9 * 4096 + 8);
+        x.setTable(Due.SORT_THREE | Due.MEMORY_PAGE);
+        due.same("sort 8 does not come to the fourth", x.find(8, LOAD, 1, 8), -13);
+        x.setTable(Due.SORT_THREE | Due.MEMORY_PAGE + 1);
+        due.same("sort 8 from the second on", x.find(8, LOAD, 1, 8), Due.MEMORY + 9 * 4096 + 8);
+        x.setTable(Due.SORT_FOUR | Due.MEMORY_PAGE + 1);
+        due.same("sort 9 from the second on", x.find(8, LOAD, 1, 8), -13);
     }
 
-    private static void lostTables(Due due) {
-        long[] pages = {0, Due.MEMORY_PAGE - 1, Due.MEMORY_PAGE + 16, (1L << 44) - 1, Due.MEMORY_PAGE | 1L << 43};
-        for (int access = 0; access < 3; access++) {
-            for (long page : pages) {
+    private static void sameBits(Due due) {
+        for (int n = 3; n <= 4; n++) {
+            int lowest = 9 * n + 11;
+            long half = 1L << lowest;
+            for (int access = FETCH; access <= STORE; access++) {
                 PageWalker x = Due.open();
-                x.setTable(Due.SORT_THREE | page);
-                due.same("table on page " + page, x.find(0, access, SUPERVISOR, 1), ACCESS_FAULTS[access]);
-                x = Due.three(V | R | W | X);
-                x.put(Due.row(1, 0), page << 10 | V);
-                due.same("lower table on page " + page, x.find(0, access, SUPERVISOR, 1), ACCESS_FAULTS[access]);
-            }
-        }
-        PageWalker last = Due.open();
-        last.setTable(Due.SORT_THREE | Due.MEMORY_PAGE + 15);
-        last.put(Due.row(15, 255), 1L << 18 << 10 | V | R);
-        due.same("table on the last page", last.find(255L << 30, LOAD, SUPERVISOR, 1), 1L << 30);
-    }
-
-    private static void guardedTables(Due due) {
-        for (int table = 0; table < 3; table++) {
-            for (int config = 0; config < 8; config++) {
-                PageWalker x = Due.three(V | R | W | X | U | A | D);
-                x.setNumber(0, Due.row(table, 0) >> 2);
-                x.setConfigs(Due.openBehind(0x18 | config));
-                boolean open = (config & 1) != 0;
-                for (int access = 0; access < 3; access++) {
-                    due.same("table " + table + " guarded by " + config, x.find(8, access, USER, 8),
-                            open ? PAGE + 8 : ACCESS_FAULTS[access]);
+                x.setTable(Due.sort(n) | Due.MEMORY_PAGE);
+                // The rows of the lowest, the highest and the two middle addresses are pages of the greatest size.
+                for (int row : new int[] {0, 255, 256, 511}) {
+                    x.put(Due.row(0, row), large(ALL));
                 }
-            }
-            halfGuarded(due, table);
-        }
-    }
-
-    private static void halfGuarded(Due due, int table) {
-        PageWalker x = Due.three(V | R | W | X | U | A | D);
-        x.setNumber(0, (Due.row(table, 0) >> 2) + 1);
-        x.setConfigs(Due.openBehind(0x17));
-        due.same("half of an entry of table " + table + " covered", x.find(8, LOAD, USER, 8), -5);
-    }
-
-    private static void entriesOnTheWay(Due due) {
-        for (int bits = 0; bits < 256; bits++) {
-            if ((bits & (R | X)) != 0) {
-                continue;
-            }
-            boolean leadsOn = (bits & V) != 0 && (bits & (W | U | A | D)) == 0;
-            for (int access = 0; access < 3; access++) {
-                for (int table = 0; table < 3; table++) {
-                    PageWalker x = Due.three(V | R | W | X);
-                    x.put(Due.row(table, 0), Due.entry(table + 1, bits));
-                    due.same(call("entry " + bits + " in table " + table, access, SUPERVISOR),
-                            x.find(0, access, SUPERVISOR, 1), leadsOn && table < 2 ? PAGE : PAGE_FAULTS[access]);
+                for (long a : new long[] {0, half - 1, -half, -1}) {
+                    long within = a & (1L << (9 * n + 3)) - 1;
+                    due.same("n " + n + " find(" + a + ")", x.find(a, access, 1, 1), LARGE | within);
+                    for (int bit = lowest; bit < 64; bit++) {
+                        long other = a ^ 1L << bit;
+                        due.same("n " + n + " find(" + other + ")", x.find(other, access, 1, 1), Due.PAGE_FAULTS[access]);
+                    }
                 }
             }
         }
-        for (int bit = 8; bit < 64; bit++) {
-            if (bit >= 10 && bit < 54) {
-                continue;
-            }
-            for (int table = 0; table < 3; table++) {
-                PageWalker x = Due.three(V | R | W | X);
-                x.put(Due.row(table, 0), x.word(Due.row(table, 0)) | 1L << bit);
-                due.same("bit " + bit + " of the entry in table " + table, x.find(0, STORE, SUPERVISOR, 1), bit < 10 ? PAGE : -15);
+        // An address that four depths take and three do not.
+        PageWalker x = Due.walk(4, 3, large(ALL));
+        due.same("2^38 by four depths", x.find(1L << 38, LOAD, 1, 1), LARGE | 1L << 38);
+        x.setTable(Due.SORT_THREE | Due.MEMORY_PAGE);
+        due.same("2^38 by three depths", x.find(1L << 38, LOAD, 1, 1), -13);
+    }
+
+    private static void pageOfTheTable(Due due) {
+        for (int n = 3; n <= 4; n++) {
+            for (int page = 0; page < 16; page++) {
+                PageWalker x = Due.open();
+                x.setTable(Due.sort(n) | Due.MEMORY_PAGE + page);
+                x.put(Due.row(page, 0), large(ALL));
+                due.same("n " + n + ", the table on page " + page, x.find(8, LOAD, 1, 8), LARGE + 8);
             }
         }
     }
 
-    private static void everyLastEntry(Due due) {
-        for (int bits = 0; bits < 256; bits++) {
-            if ((bits & (R | X)) == 0) {
-                continue;
+    private static void rows(Due due) {
+        int[] rows = {0, 1, 2, 85, 128, 170, 255, 256, 510, 511};
+        for (int n = 3; n <= 4; n++) {
+            for (int depth = 0; depth < n; depth++) {
+                for (int row : rows) {
+                    rowOf(due, n, depth, row);
+                }
             }
-            for (int rights = 0; rights < 4; rights++) {
-                for (int mode = 0; mode < 2; mode++) {
-                    for (int access = 0; access < 3; access++) {
-                        lastEntry(due, bits, rights, mode, access);
+        }
+    }
+
+    /** One row of one depth, while those of all other depths are 0. */
+    private static void rowOf(Due due, int n, int depth, int row) {
+        PageWalker x = Due.walk(n, 0, Due.entry(15, V | R));
+        long place = Due.place(n, depth);
+        x.put(place + 8 * row, x.word(place));
+        if (row != 0) {
+            x.put(place, 0);
+        }
+        int unused = 52 - 9 * n;
+        long a = (long) row << (12 + 9 * depth) << unused >> unused;
+        String what = "row " + row + " at depth " + depth + " of " + n;
+        due.same(what, x.find(a | 8, LOAD, 1, 8), Due.MEMORY + 15 * 4096 + 8);
+        due.same(what + " and all ones below", x.find(a | 0xFF8, LOAD, 1, 8), Due.MEMORY + 15 * 4096 + 0xFF8);
+        long beside = (long) (row ^ 1) << (12 + 9 * depth) << unused >> unused;
+        due.same(what + ", the row beside it", x.find(beside | 8, LOAD, 1, 8), -13);
+        if (depth == 0) {
+            due.same(what + ", its mark", x.word(place + 8 * row), Due.entry(15, V | R | A));
+        }
+    }
+
+    private static void noSuchWord(Due due) {
+        long[] lost = {
+            0, 1, Due.MEMORY_PAGE - 1, Due.MEMORY_PAGE + 16, Due.MEMORY_PAGE + 17, Due.MEMORY_PAGE << 1, Due.MEMORY_PAGE >> 1,
+            Due.MEMORY_PAGE | 1L << 20, Due.MEMORY_PAGE | 1L << 43, Due.ALL_PAGES,
+        };
+        for (int n = 3; n <= 4; n++) {
+            for (int depth = 0; depth < n; depth++) {
+                for (long page : lost) {
+                    lostTable(due, n, depth, page);
+                }
+                firstAndLastTable(due, n, depth);
+            }
+        }
+    }
+
+    /** An object whose table of a depth lies on a page, with addresses whose other rows are 0. */
+    private static PageWalker tableOn(int n, int depth, long page) {
+        PageWalker x = Due.walk(n, 0, Due.entry(9, ALL));
+        if (depth == n - 1) {
+            x.setTable(Due.sort(n) | page);
+        } else {
+            x.put(Due.place(n, depth + 1), page << 10 | V);
+        }
+        return x;
+    }
+
+    private static void lostTable(Due due, int n, int depth, long page) {
+        PageWalker x = tableOn(n, depth, page);
+        int unused = 52 - 9 * n;
+        for (int access = FETCH; access <= STORE; access++) {
+            for (int row : new int[] {0, 256, 511}) {
+                long a = (long) row << (12 + 9 * depth) << unused >> unused;
+                due.same(of(n, depth, access) + ", page " + page + ", row " + row, x.find(a, access, 1, 1), Due.ACCESS_FAULTS[access]);
+            }
+        }
+    }
+
+    /** The first and the last word of memory are entries like all others. */
+    private static void firstAndLastTable(Due due, int n, int depth) {
+        int unused = 52 - 9 * n;
+        PageWalker last = tableOn(n, depth, Due.MEMORY_PAGE + 15);
+        last.put(Due.LAST_WORD, large(ALL));
+        long highest = 511L << (12 + 9 * depth) << unused >> unused;
+        due.same("the last word at depth " + depth + " of " + n, last.find(highest | 8, LOAD, 1, 8), LARGE + 8);
+        PageWalker first = Due.open();
+        first.setTable(Due.sort(n) | Due.MEMORY_PAGE + (depth == n - 1 ? 0 : 1));
+        // The tables above lie on the pages 1 and on; the one of this depth on page 0.
+        for (int above = n - 1; above > depth; above--) {
+            first.put(Due.row(n - above, 0), Due.entry(above == depth + 1 ? 0 : n - above + 1, V));
+        }
+        first.put(Due.MEMORY, large(ALL));
+        due.same("the first word at depth " + depth + " of " + n, first.find(8, LOAD, 1, 8), LARGE + 8);
+    }
+
+    private static void guardedEntry(Due due) {
+        for (int n = 3; n <= 4; n++) {
+            for (int depth = 0; depth < n; depth++) {
+                for (int rights = 0; rights < 16; rights++) {
+                    guardedBy(due, n, depth, rights);
+                }
+                uncovered(due, n, depth);
+            }
+        }
+    }
+
+    /** A region over one entry, with rights R, W, X and, as the fourth, L: R alone decides. */
+    private static void guardedBy(Due due, int n, int depth, int rights) {
+        PageWalker x = Due.walk(n, 0, Due.entry(9, ALL | U));
+        x.setNumber(0, Due.place(n, depth) >> 2);
+        x.setConfigs(Due.openBehind(0x18 | rights & 7 | (rights & 8) << 4));
+        boolean open = (rights & 1) != 0;
+        for (int access = FETCH; access <= STORE; access++) {
+            due.same(of(n, depth, access) + ", guarded by " + rights, x.find(8, access, 0, 8),
+                    open ? Due.MEMORY + 9 * 4096 + 8 : Due.ACCESS_FAULTS[access]);
+        }
+    }
+
+    /** Regions over all addresses but those of one entry: no region covers it, and mode 1 does not come through. */
+    private static void uncovered(Due due, int n, int depth) {
+        PageWalker x = Due.walk(n, 0, Due.entry(9, ALL | U));
+        x.setNumber(0, Due.place(n, depth) >> 2);
+        x.setNumber(1, (Due.place(n, depth) >> 2) + 2);
+        x.setNumber(2, -1);
+        x.setConfigs(0x0F_00_0FL);
+        for (int access = FETCH; access <= STORE; access++) {
+            due.same(of(n, depth, access) + ", not covered", x.find(8, access, 0, 8), Due.ACCESS_FAULTS[access]);
+        }
+        x.setConfigs(0x0F_0F_0FL);
+        due.same(of(n, depth, LOAD) + ", covered", x.find(8, LOAD, 0, 8), Due.MEMORY + 9 * 4096 + 8);
+    }
+
+    private static void halfGuarded(Due due) {
+        for (int n = 3; n <= 4; n++) {
+            for (int depth = 0; depth < n; depth++) {
+                for (int half = -1; half <= 2; half++) {
+                    PageWalker x = Due.walk(n, 0, Due.entry(9, ALL | U));
+                    x.setNumber(0, (Due.place(n, depth) >> 2) + half);
+                    x.setConfigs(Due.openBehind(0x17));
+                    boolean beside = half < 0 || half > 1;
+                    for (int access = FETCH; access <= STORE; access++) {
+                        due.same(of(n, depth, access) + ", four bytes from " + 4 * half, x.find(8, access, 0, 8),
+                                beside ? Due.MEMORY + 9 * 4096 + 8 : Due.ACCESS_FAULTS[access]);
                     }
                 }
             }
         }
     }
 
-    private static void lastEntry(Due due, int bits, int rights, int mode, int access) {
-        boolean sum = (rights & 1) != 0;
-        boolean mxr = (rights & 2) != 0;
-        boolean wellFormed = (bits & V) != 0 && ((bits & W) == 0 || (bits & R) != 0);
-        boolean user = (bits & U) != 0;
-        boolean modeOpen = mode == USER ? user : !user || sum && access != FETCH;
-        boolean readable = (bits & R) != 0 || mxr && (bits & X) != 0;
-        boolean accessOpen = access == FETCH ? (bits & X) != 0 : access == LOAD ? readable : (bits & W) != 0;
-        boolean open = wellFormed && modeOpen && accessOpen;
-        PageWalker x = Due.three(bits);
-        x.rights(sum, mxr);
-        String what = call("last entry " + bits + ", rights " + rights, access, mode);
-        due.same(what, x.find(24, access, mode, 8), open ? PAGE + 24 : PAGE_FAULTS[access]);
-        int marked = !open ? bits : access == STORE ? bits | A | D : bits | A;
-        due.same(what + ", marks", x.word(Due.row(2, 0)), Due.entry(3, marked));
+    private static void numberInEntry(Due due) {
+        for (int bit = 10; bit < 54; bit++) {
+            PageWalker x = Due.walk(3, 0, 1L << bit | V | R);
+            due.same("bit " + bit + " of the last entry", x.find(8, LOAD, 1, 8), 1L << bit + 2 | 8);
+        }
+        PageWalker highest = Due.walk(3, 0, Due.ALL_PAGES << 10 | V | R);
+        due.same("the highest page", highest.find(0xFFF, LOAD, 1, 1), TOP);
+        PageWalker lowest = Due.walk(3, 0, V | R);
+        due.same("the lowest page", lowest.find(0, LOAD, 1, 1), 0);
+        // Bits 5, 8 and 9 are neither marks nor a part of the number.
+        for (long bits : new long[] {1L << 5, 1L << 8, 1L << 9, 0x320}) {
+            for (int depth = 0; depth < 3; depth++) {
+                PageWalker x = Due.walk(3, 0, Due.entry(9, V | R));
+                x.put(Due.place(3, depth), x.word(Due.place(3, depth)) | bits);
+                due.same("bits " + bits + " at depth " + depth, x.find(8, LOAD, 1, 8), Due.MEMORY + 9 * 4096 + 8);
+            }
+        }
     }
 
-    private static void marks(Due due) {
-        PageWalker x = Due.three(V | R | W | X);
-        x.find(0, LOAD, SUPERVISOR, 1);
-        due.same("marks of a load", x.word(Due.row(2, 0)), Due.entry(3, V | R | W | X | A));
-        x.find(0, STORE, SUPERVISOR, 1);
-        due.same("marks of a store", x.word(Due.row(2, 0)), Due.entry(3, V | R | W | X | A | D));
-        due.same("no marks on the way", x.word(Due.row(1, 0)), Due.entry(2, V));
-        due.same("no marks at the root", x.word(Due.row(0, 0)), Due.entry(1, V));
-        x.put(Due.row(2, 0), Due.entry(3, V | R | W | X | D));
-        x.find(0, FETCH, SUPERVISOR, 1);
-        due.same("D stays in a fetch", x.word(Due.row(2, 0)), Due.entry(3, V | R | W | X | A | D));
-        x.put(Due.row(2, 0), Due.entry(3, V | R | W | X) | 3 << 8 | G);
-        x.find(0, STORE, SUPERVISOR, 1);
-        due.same("other bits stay", x.word(Due.row(2, 0)), Due.entry(3, V | R | W | X | A | D | G) | 3 << 8);
-        x.put(Due.row(2, 0), Due.entry(3, V | R | W | X));
-        x.find(0, STORE, MACHINE, 1);
-        due.same("mode 3 marks nothing", x.word(Due.row(2, 0)), Due.entry(3, V | R | W | X));
+    /** An entry at a depth, and the same one with a fault in it: the second one, and it alone, is a page fault. */
+    private static void breaks(Due due, String what, int n, int depth, long good, long bad) {
+        for (int access = FETCH; access <= STORE; access++) {
+            PageWalker x = Due.walk(n, 0, Due.entry(9, ALL));
+            x.put(Due.place(n, depth), good);
+            due.same(what + ", without it, " + of(n, depth, access), x.find(0, access, 1, 8) >= 0, true);
+            x.put(Due.place(n, depth), bad);
+            due.same(what + ", " + of(n, depth, access), x.find(0, access, 1, 8), Due.PAGE_FAULTS[access]);
+            due.same(what + ", the entry stays, " + of(n, depth, access), x.word(Due.place(n, depth)), bad);
+        }
     }
 
-    private static void guardedMarks(Due due) {
-        for (int config : new int[] {0x19, 0x1B, 0x1D, 0x1F}) {
-            boolean open = (config & 2) != 0;
-            for (int marked = 0; marked < 4; marked++) {
-                int bits = V | R | W | X | U | marked << 6;
-                for (int access = 0; access < 3; access++) {
-                    PageWalker x = Due.three(bits);
-                    x.setNumber(0, Due.row(2, 0) >> 2);
-                    x.setConfigs(Due.openBehind(config));
-                    int wanted = access == STORE ? A | D : A;
-                    boolean found = open || (bits & wanted) == wanted;
-                    String what = call("marks " + marked + " guarded by " + config, access, USER);
-                    due.same(what, x.find(0, access, USER, 8), found ? PAGE : ACCESS_FAULTS[access]);
-                    due.same(what + ", entry", x.word(Due.row(2, 0)), Due.entry(3, found ? bits | wanted : bits));
+    private static long leadsOn(int n, int depth) {
+        return Due.entry(n - depth, V);
+    }
+
+    private static void notValid(Due due) {
+        for (int n = 3; n <= 4; n++) {
+            for (int depth = 0; depth < n; depth++) {
+                breaks(due, "a last entry without V", n, depth, large(ALL), large(ALL - V));
+                breaks(due, "a last entry without V and marks", n, depth, large(ALL - A - D), large(ALL - A - D - V));
+                breaks(due, "an entry of 0", n, depth, large(ALL), 0);
+                if (depth > 0) {
+                    breaks(due, "an entry on the way without V", n, depth, leadsOn(n, depth), leadsOn(n, depth) - V);
                 }
             }
         }
-        PageWalker x = Due.three(V | R);
-        x.setNumber(0, Due.row(2, 0) >> 2);
-        x.setConfigs(Due.openBehind(0x19));
-        due.same("a page fault comes before the guard of marks", x.find(0, STORE, SUPERVISOR, 8), -15);
     }
 
-    private static void guardedTarget(Due due) {
-        for (int config = 0; config < 8; config++) {
-            for (int access = 0; access < 3; access++) {
-                PageWalker x = Due.three(V | R | W | X);
-                x.setNumber(0, PAGE >> 2);
-                x.setConfigs(Due.openBehind(0x10 | config));
-                boolean r = (config & 1) != 0;
-                boolean open = access == LOAD ? r : access == STORE ? r && (config & 2) != 0 : (config & 4) != 0;
-                String what = call("target guarded by " + config, access, SUPERVISOR);
-                due.same(what, x.find(0, access, SUPERVISOR, 4), open ? PAGE : ACCESS_FAULTS[access]);
-                due.same(what + ", marks stay", x.word(Due.row(2, 0)),
-                        Due.entry(3, V | R | W | X | A | (access == STORE ? D : 0)));
-                due.same(what + ", half covered", x.find(0, access, SUPERVISOR, 8), ACCESS_FAULTS[access]);
-                due.same(what + ", behind it", x.find(4, access, SUPERVISOR, 4), PAGE + 4);
+    private static void storeWithoutLoad(Due due) {
+        for (int n = 3; n <= 4; n++) {
+            for (int depth = 0; depth < n; depth++) {
+                breaks(due, "W and X without R", n, depth, large(ALL), large(ALL - R));
+                breaks(due, "W and X without R and marks", n, depth, large(ALL), large(V | W | X));
+                breaks(due, "W without R and X", n, depth, large(ALL), large(V | W));
+                if (depth > 0) {
+                    breaks(due, "an entry on the way with W", n, depth, leadsOn(n, depth), leadsOn(n, depth) | W);
+                }
             }
         }
-    }
-
-    private static void targetsOutsideMemory(Due due) {
-        PageWalker x = Due.three(V | R);
-        for (long page : new long[] {0, 1, Due.MEMORY_PAGE - 1, Due.MEMORY_PAGE + 16, (1L << 44) - 1}) {
-            x.put(Due.row(2, 0), page << 10 | V | R);
-            due.same("target on page " + page, x.find(0xFF8, LOAD, SUPERVISOR, 8), page << 12 | 0xFF8);
-        }
-    }
-
-    private static void tableBitsThatDoNotMatter(Due due) {
-        PageWalker x = Due.three(V | R);
-        x.setTable(x.table() | 0xFFFFL << 44);
-        due.same("bits 44..59 of the table", x.find(8, LOAD, SUPERVISOR, 8), PAGE + 8);
-    }
-
-    private static void wrongInputs(Due due) {
-        PageWalker x = Due.three(V | R | W | X | U);
+        PageWalker x = Due.three(V | W | X);
         x.rights(true, true);
-        int[][] wrong = {
-            {-1, 1, 1}, {3, 1, 1}, {Integer.MIN_VALUE, 1, 1}, {Integer.MAX_VALUE, 1, 1},
-            {1, 2, 1}, {1, -1, 1}, {1, 4, 1}, {1, Integer.MIN_VALUE, 1},
-            {1, 1, 0}, {1, 1, 3}, {1, 1, 5}, {1, 1, 6}, {1, 1, 7}, {1, 1, 9}, {1, 1, 16}, {1, 1, -1}, {1, 1, -8},
-            {1, 1, Integer.MIN_VALUE}, {1, 1, Integer.MAX_VALUE}, {2, 3, 12},
-        };
-        for (int[] w : wrong) {
-            due.refuses("find(0, " + w[0] + ", " + w[1] + ", " + w[2] + ")", IllegalArgumentException.class,
-                    () -> x.find(0, w[0], w[1], w[2]));
-        }
-        for (long page : new long[] {0, 1, -1, -2, 1L << 44, Long.MIN_VALUE >> 12, Long.MAX_VALUE >> 12}) {
-            for (int size = 2; size <= 8; size *= 2) {
-                int bytes = size;
-                long over = page * 4096 + 4097 - size;
-                due.refuses("find(" + over + ") of " + size, IllegalArgumentException.class, () -> x.find(over, LOAD, MACHINE, bytes));
-                due.refuses("find(" + over + ") of " + size, IllegalArgumentException.class, () -> x.find(over, STORE, USER, bytes));
+        due.same("a load by MXR of X with W", x.find(0, LOAD, 1, 1), -13);
+        due.same("a fetch of X with W", x.find(0, FETCH, 1, 1), -12);
+    }
+
+    private static void highBits(Due due) {
+        for (int n = 3; n <= 4; n++) {
+            for (int depth = 0; depth < n; depth++) {
+                for (int bit = 54; bit < 64; bit++) {
+                    breaks(due, "bit " + bit + " of a last entry", n, depth, large(ALL), large(ALL) | 1L << bit);
+                    if (depth > 0) {
+                        breaks(due, "bit " + bit + " on the way", n, depth, leadsOn(n, depth), leadsOn(n, depth) | 1L << bit);
+                    }
+                }
+                breaks(due, "all high bits", n, depth, large(ALL), large(ALL) | -1L << 54);
             }
         }
-        due.same("no marks by wrong calls", x.word(Due.row(2, 0)), Due.entry(3, V | R | W | X | U));
-        for (int size = 1; size <= 8; size *= 2) {
-            due.same("the last " + size + " of the page", x.find(4096 - size, LOAD, USER, size), PAGE + 4096 - size);
+    }
+
+    private static void leadsOnFromTheLowest(Due due) {
+        for (int n = 3; n <= 4; n++) {
+            breaks(due, "leads on from the lowest", n, 0, Due.entry(9, ALL), Due.entry(9, V));
+            breaks(due, "leads on from the lowest to its own page", n, 0, Due.entry(9, ALL), Due.entry(n - 1, V));
+            // The lowest entry leads to a page where a last entry stands.
+            PageWalker x = Due.walk(n, 0, Due.entry(9, V));
+            x.put(Due.row(9, 0), Due.entry(10, ALL));
+            due.same("no fifth depth of " + n, x.find(0, LOAD, 1, 1), -13);
         }
-        due.same("an address that its size does not divide", x.find(3, LOAD, USER, 8), PAGE + 3);
+    }
+
+    private static void marksOnTheWay(Due due) {
+        for (int n = 3; n <= 4; n++) {
+            for (int depth = 1; depth < n; depth++) {
+                for (int marks : new int[] {U, A, D, U | A, U | D, A | D, U | A | D}) {
+                    breaks(due, "marks " + marks + " on the way", n, depth, leadsOn(n, depth), leadsOn(n, depth) | marks);
+                }
+            }
+        }
+        // In mode 0 as well, where the last entry has U.
+        PageWalker x = Due.three(ALL | U);
+        due.same("a user's page", x.find(0, LOAD, 0, 1), Due.MEMORY + 3 * 4096);
+        x.put(Due.row(1, 0), Due.entry(2, V | U));
+        due.same("U on the way in mode 0", x.find(0, LOAD, 0, 1), -13);
+    }
+
+    private static void nextPage(Due due) {
+        for (int n = 3; n <= 4; n++) {
+            for (int page = n; page < 16; page++) {
+                PageWalker x = Due.walk(n, 0, Due.entry(9, ALL));
+                x.put(Due.place(n, 1), Due.entry(page, V | G));
+                x.put(Due.row(page, 0), Due.entry(11, ALL));
+                due.same("n " + n + ", the next page is " + page, x.find(8, LOAD, 1, 8), Due.MEMORY + 11 * 4096 + 8);
+            }
+            // A table that leads to itself, at every depth but the lowest.
+            PageWalker self = Due.open();
+            self.setTable(Due.sort(n) | Due.MEMORY_PAGE);
+            self.put(Due.row(0, 0), Due.entry(0, V));
+            self.put(Due.row(0, 1), Due.entry(5, V | R));
+            due.same("n " + n + ", a table of its own", self.find(1L << 12 | 8, LOAD, 1, 8), Due.MEMORY + 5 * 4096 + 8);
+            due.same("n " + n + ", a table that leads on for ever", self.find(8, LOAD, 1, 8), -13);
+            due.same("n " + n + ", no mark on the way", self.word(Due.row(0, 0)), Due.entry(0, V));
+        }
+    }
+
+    private static void lastOne(Due due) {
+        for (int n = 3; n <= 4; n++) {
+            for (int depth = 0; depth < n; depth++) {
+                PageWalker x = Due.walk(n, depth, large(V | R));
+                due.same("R at depth " + depth + " of " + n, x.find(8, LOAD, 1, 8), LARGE + 8);
+                x = Due.walk(n, depth, large(V | X));
+                due.same("X at depth " + depth + " of " + n, x.find(8, FETCH, 1, 8), LARGE + 8);
+                x = Due.walk(n, depth, large(V | R | X));
+                due.same("R and X at depth " + depth + " of " + n, x.find(8, FETCH, 1, 8), LARGE + 8);
+            }
+        }
+        // A last one whose number would lead on to a table that grants the access.
+        for (int bits : new int[] {V | R, V | X}) {
+            PageWalker x = Due.three(ALL);
+            x.put(Due.row(1, 0), Due.entry(2, bits));
+            due.same("a last one does not lead on", x.find(0, STORE, 1, 1), -15);
+        }
     }
 }

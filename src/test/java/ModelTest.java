@@ -3,10 +3,13 @@ import java.util.HashMap;
 import java.util.Map;
 import java.util.Random;
 
-/** All promises: long runs of calls, each answer against a slow model written after the document's words. */
+/** All promises: runs of all the calls that an object has, each answer against a slow model written after the document's words. */
 public final class ModelTest {
-    private static final int RUNS = 3_000;
+    private static final int RUNS = 6_000;
     private static final int CALLS = 512;
+    private static final int STORE = PageWalker.STORE;
+    /** As many calls as one step makes at most. */
+    private static final int STEP = 2;
 
     public static void main(String[] args) {
         Due due = new Due();
@@ -178,6 +181,7 @@ public final class ModelTest {
         private final PageWalker x = new PageWalker();
         private final Model model = new Model();
         private final boolean locks;
+        private int calls = 0;
 
         Run(Due due, int run, int[] seen) {
             this.due = due;
@@ -191,12 +195,14 @@ public final class ModelTest {
             if (run % 4 != 0) {
                 prepare();
             }
-            for (int i = 0; i < CALLS; i++) {
-                step(random.nextInt(100));
+            // Each word that the model holds is looked at in the end, by one call of those that the object has left.
+            while (calls + STEP + model.memory.size() + 1 <= CALLS) {
+                step(random.nextInt(104));
             }
-            for (long a = Due.MEMORY; a < Due.MEMORY + 65_536; a += 8) {
-                due.same("run " + run + " word(" + a + ") at the end", x.word(a), model.word(a));
+            for (long a : model.memory.keySet()) {
+                word(a);
             }
+            due.same("calls of run " + run + " within bounds", calls <= CALLS, true);
         }
 
         private void prepare() {
@@ -213,25 +219,69 @@ public final class ModelTest {
         private void step(int kind) {
             if (kind < 45) {
                 find();
-            } else if (kind < 65) {
+            } else if (kind < 60) {
                 put(wordAddress(), random.nextInt(10) == 0 ? random.nextLong() : entry());
             } else if (kind < 70) {
-                long a = wordAddress();
-                due.same("run " + run + " word(" + a + ")", x.word(a), model.word(a));
+                word(wordAddress());
             } else if (kind < 74) {
                 table(sort() << 60 | (random.nextInt(3) == 0 ? random.nextLong() & 0xFFFFL << 44 : 0) | page());
             } else if (kind < 78) {
-                model.sum = random.nextBoolean();
-                model.mxr = random.nextBoolean();
-                x.rights(model.sum, model.mxr);
+                rights(random.nextBoolean(), random.nextBoolean());
             } else if (kind < 82) {
                 configs(someConfigs());
             } else if (kind < 88) {
                 number(random.nextInt(8), someNumber());
             } else if (kind < 99) {
                 allows();
-            } else {
+            } else if (kind < 100) {
+                calls++;
                 x.fence();
+            } else {
+                wrongCall();
+            }
+        }
+
+        private void word(long a) {
+            calls++;
+            due.same("run " + run + " word(" + a + ")", x.word(a), model.word(a));
+        }
+
+        private void rights(boolean sum, boolean mxr) {
+            calls++;
+            x.rights(sum, mxr);
+            model.sum = sum;
+            model.mxr = mxr;
+        }
+
+        /** One call that is refused, and must leave all as it is. */
+        private void wrongCall() {
+            calls++;
+            long any = random.nextLong();
+            long noWord = Model.isWord(any) ? any + 1 : any;
+            int noRegion = random.nextBoolean() ? 8 + random.nextInt(1_000) : -1 - random.nextInt(1_000);
+            long noTable = any >>> 63 == 0 ? any | 1L << 60 : any | 1L << 61;
+            int noSize = random.nextInt(5) * 2 + 3;
+            switch (random.nextInt(7)) {
+                case 0:
+                    due.refuses("run " + run + " word(" + noWord + ")", IndexOutOfBoundsException.class, () -> x.word(noWord));
+                    break;
+                case 1:
+                    due.refuses("run " + run + " put(" + noWord + ")", IndexOutOfBoundsException.class, () -> x.put(noWord, any));
+                    break;
+                case 2:
+                    due.refuses("run " + run + " number(" + noRegion + ")", IndexOutOfBoundsException.class, () -> x.number(noRegion));
+                    break;
+                case 3:
+                    due.refuses("run " + run + " setNumber(" + noRegion + ")", IndexOutOfBoundsException.class, () -> x.setNumber(noRegion, any));
+                    break;
+                case 4:
+                    due.refuses("run " + run + " setTable(" + noTable + ")", IllegalArgumentException.class, () -> x.setTable(noTable));
+                    break;
+                case 5:
+                    due.refuses("run " + run + " find of " + noSize, IllegalArgumentException.class, () -> x.find(0, STORE, 1, noSize));
+                    break;
+                default:
+                    due.refuses("run " + run + " allows in mode 2", IllegalArgumentException.class, () -> x.allows(0, STORE, 2, 1));
             }
         }
 
@@ -318,6 +368,7 @@ public final class ModelTest {
         }
 
         private void find() {
+            calls++;
             long a = random.nextInt(12) == 0 ? random.nextLong() : random.nextInt(8) == 0 ? physical() : virtual();
             int access = random.nextInt(3);
             int mode = new int[] {0, 0, 1, 1, 1, 1, 3}[random.nextInt(7)];
@@ -336,6 +387,7 @@ public final class ModelTest {
         }
 
         private void allows() {
+            calls++;
             long a = physical();
             int access = random.nextInt(3);
             int mode = new int[] {0, 1, 3}[random.nextInt(3)];
@@ -350,17 +402,20 @@ public final class ModelTest {
         }
 
         private void put(long a, long v) {
+            calls++;
             x.put(a, v);
             model.memory.put(a, v);
         }
 
         private void table(long t) {
+            calls += 2;
             x.setTable(t);
             model.table = t;
             due.same("run " + run + " table()", x.table(), t);
         }
 
         private void configs(long c) {
+            calls += 2;
             x.setConfigs(c);
             model.setConfigs(c);
             long want = 0;
@@ -371,6 +426,7 @@ public final class ModelTest {
         }
 
         private void number(int i, long v) {
+            calls += 2;
             x.setNumber(i, v);
             model.setNumber(i, v);
             due.same("run " + run + " number(" + i + ")", x.number(i), model.numbers[i]);
